@@ -1,0 +1,67 @@
+/** Counts answers that are not as due; a test ends with exit code 1 if there was one. */
+final class Check {
+    interface Call {
+        void run();
+    }
+
+    private int wrong = 0;
+    private int looked = 0;
+
+    void due(String call, long want, long got) {
+        looked++;
+        if (want != got) {
+            wrong++;
+            System.out.println(call + " answered " + got + ", due is " + want);
+        }
+    }
+
+    /** The call must throw just this class, not one below it. */
+    void refuses(String call, Class<? extends RuntimeException> want, Call run) {
+        looked++;
+        String got = "nothing";
+        try {
+            run.run();
+        } catch (RuntimeException e) {
+            got = e.getClass().getSimpleName();
+        }
+        if (!got.equals(want.getSimpleName())) {
+            wrong++;
+            System.out.println(call + " threw " + got + ", due is " + want.getSimpleName());
+        }
+    }
+
+    void index(String call, Call run) {
+        refuses(call, IndexOutOfBoundsException.class, run);
+    }
+
+    void turn(String call, Call run) {
+        refuses(call, IllegalStateException.class, run);
+    }
+
+    void range(String call, Call run) {
+        refuses(call, IllegalArgumentException.class, run);
+    }
+
+    void meaning(String call, Call run) {
+        refuses(call, UnsupportedOperationException.class, run);
+    }
+
+    void isTrue(String what, boolean holds) {
+        looked++;
+        if (!holds) {
+            wrong++;
+            System.out.println("does not hold: " + what);
+        }
+    }
+
+    boolean anyWrong() {
+        return wrong > 0;
+    }
+
+    void end(String test) {
+        System.out.println(test + ": " + looked + " looked at, " + wrong + " wrong");
+        if (wrong > 0) {
+            System.exit(1);
+        }
+    }
+}
