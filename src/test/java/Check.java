@@ -4,6 +4,10 @@ final class Check {
         void run();
     }
 
+    interface Ask {
+        int give();
+    }
+
     private int wrong = 0;
     private int looked = 0;
 
@@ -44,6 +48,34 @@ final class Check {
 
     void meaning(String call, Call run) {
         refuses(call, UnsupportedOperationException.class, run);
+    }
+
+    /** The call must be taken; what it answers is looked at elsewhere. */
+    void takes(String call, Call run) {
+        looked++;
+        try {
+            run.run();
+        } catch (RuntimeException e) {
+            wrong++;
+            System.out.println(call + " threw " + e.getClass().getSimpleName() + ", it is to be taken");
+        }
+    }
+
+    void same(String what, String want, String got) {
+        looked++;
+        if (!want.equals(got)) {
+            wrong++;
+            System.out.println(what + " answered\n  " + got + "\ndue is\n  " + want);
+        }
+    }
+
+    /** An answer as text, a thrown exception by its name. */
+    static String answer(Ask ask) {
+        try {
+            return String.valueOf(ask.give());
+        } catch (RuntimeException e) {
+            return "throws." + e.getClass().getSimpleName();
+        }
     }
 
     void isTrue(String what, boolean holds) {

@@ -4,10 +4,6 @@ import java.util.Random;
 public final class ModelTest {
     private static final Check C = new Check();
 
-    private interface Answer {
-        int give();
-    }
-
     /** One run: its calls, and how its numbers are drawn. */
     private static final class Run {
         private final Random random;
@@ -34,19 +30,11 @@ public final class ModelTest {
             return low + random.nextInt(high - low + 1);
         }
 
-        private void both(String call, Answer one, Answer other) {
+        private void both(String call, Check.Ask one, Check.Ask other) {
             told.append(call).append('\n');
-            String got = answer(one);
-            String want = answer(other);
+            String got = Check.answer(one);
+            String want = Check.answer(other);
             C.isTrue(call + " answered " + got + ", due is " + want, got.equals(want));
-        }
-
-        private static String answer(Answer call) {
-            try {
-                return String.valueOf(call.give());
-            } catch (RuntimeException e) {
-                return "throws." + e.getClass().getSimpleName();
-            }
         }
 
         /** Five full orders and all the steps that there may be. */

@@ -27,24 +27,6 @@ public final class PromisesTest {
         C.end("PromisesTest");
     }
 
-    /** Sheets of 10 with two pieces of 4 and two of 6: three sheets are found first, two at last. */
-    private static PatternColumns foursAndSixes() {
-        PatternColumns x = new PatternColumns();
-        x.sheet(10);
-        x.order(4, 2);
-        x.order(6, 2);
-        return x;
-    }
-
-    /** Rows of one sheet: one piece of width 1 each, so a design is one pattern with all pieces. */
-    private static PatternColumns fiveNarrowOrders() {
-        PatternColumns x = new PatternColumns();
-        for (int i = 0; i < 5; i++) {
-            x.order(1, 1);
-        }
-        return x;
-    }
-
     private static void promise1NewObject() {
         PatternColumns x = new PatternColumns();
         C.due("1 column()", 0, x.column());
@@ -246,7 +228,7 @@ public final class PromisesTest {
         int[] sheets = {-1, -1, -1, 3, 3, 2, 2, 2, 2};
         int[] spent = {1, 1, 1, 1, 1, 1, 1, 0, 0};
         int[] steps = {0, 1, 2, 3, 4, 5, 6, 7, 7};
-        PatternColumns x = foursAndSixes();
+        PatternColumns x = Made.foursAndSixes();
         for (int n = 0; n < sheets.length; n++) {
             C.due("9 design(" + n + ")", sheets[n], x.design(n));
             C.due("9 spent of " + n, spent[n], x.designed(0));
@@ -294,7 +276,7 @@ public final class PromisesTest {
     }
 
     private static void promise10Designed() {
-        PatternColumns x = foursAndSixes();
+        PatternColumns x = Made.foursAndSixes();
         C.index("10 designed(-1)", () -> x.designed(-1));
         C.index("10 index ahead of turn", () -> x.designed(2));
         C.turn("10 designed(0)", () -> x.designed(0));
@@ -311,7 +293,7 @@ public final class PromisesTest {
     }
 
     private static void promise11Gap() {
-        PatternColumns x = foursAndSixes();
+        PatternColumns x = Made.foursAndSixes();
         C.turn("11 no design", x::gap);
         x.design(3);
         C.due("11 three sheets", 1, x.gap());
@@ -337,7 +319,7 @@ public final class PromisesTest {
     }
 
     private static void promise12Cut() {
-        PatternColumns x = foursAndSixes();
+        PatternColumns x = Made.foursAndSixes();
         C.turn("12 turn ahead of index", () -> x.cut(-1, 9));
         x.design(0);
         C.turn("12 none was found", () -> x.cut(0, 0));
@@ -354,7 +336,7 @@ public final class PromisesTest {
     }
 
     private static void promise13Over() {
-        PatternColumns x = foursAndSixes();
+        PatternColumns x = Made.foursAndSixes();
         C.turn("13 turn ahead of index", () -> x.over(-1));
         x.design(3);
         C.due("13 over(0)", 2, x.over(0));
@@ -368,7 +350,7 @@ public final class PromisesTest {
     }
 
     private static void promise14Keep() {
-        PatternColumns x = foursAndSixes();
+        PatternColumns x = Made.foursAndSixes();
         C.turn("14 turn ahead of all", () -> x.keep(-1, -1));
         x.design(3);
         C.index("14 keep(3, 0)", () -> x.keep(3, 0));
@@ -392,7 +374,7 @@ public final class PromisesTest {
     }
 
     private static void promise14FortyKept() {
-        PatternColumns x = fiveNarrowOrders();
+        PatternColumns x = Made.fiveNarrowOrders();
         for (int n = 0; n < 40; n++) {
             C.due("14 one more", n, keepCounts(x, n));
         }
@@ -418,7 +400,7 @@ public final class PromisesTest {
     }
 
     private static void promise15Kept() {
-        PatternColumns x = fiveNarrowOrders();
+        PatternColumns x = Made.fiveNarrowOrders();
         for (int i = 0; i < 5; i++) {
             x.pieces(i, 5 - i);
         }
@@ -437,14 +419,14 @@ public final class PromisesTest {
         x.pieces(0, 0);
         x.design(1);
         C.due("15 what is kept stays", 5, x.kept(0, 0));
-        PatternColumns y = foursAndSixes();
+        PatternColumns y = Made.foursAndSixes();
         y.design(7);
         y.keep(0, 3);
         C.due("15 an order that there is not", 0, y.kept(0, 4));
     }
 
     private static void promise16Fitting() {
-        PatternColumns x = foursAndSixes();
+        PatternColumns x = Made.foursAndSixes();
         C.index("16 fitting(-1)", () -> x.fitting(-1));
         C.index("16 fitting(min)", () -> x.fitting(Integer.MIN_VALUE));
         x.design(3);
@@ -481,7 +463,7 @@ public final class PromisesTest {
 
     private static void whatIsToldEndsTheDesign() {
         for (int how = 0; how < 3; how++) {
-            PatternColumns x = foursAndSixes();
+            PatternColumns x = Made.foursAndSixes();
             x.design(100);
             if (how == 0) {
                 x.sheet(10);
@@ -500,7 +482,7 @@ public final class PromisesTest {
     }
 
     private static void whatIsRefusedChangesNothing() {
-        PatternColumns x = foursAndSixes();
+        PatternColumns x = Made.foursAndSixes();
         x.price(0, 2);
         x.price(1, 1);
         x.design(7);
