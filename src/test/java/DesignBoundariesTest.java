@@ -18,6 +18,7 @@ public final class DesignBoundariesTest {
         patternsInTheirOrder();
         fewestSteps();
         mostSteps();
+        mostStepsNearTheFirstSheet();
         spentAheadOfAStep();
         notSpentBehindTheLastStep();
         piecesAsWideAsASheet();
@@ -196,6 +197,24 @@ public final class DesignBoundariesTest {
         C.takes("design(100000)", () -> x.design(100000));
         C.due("all of them", 100000, x.designed(1));
         C.due("it is spent", 1, x.designed(0));
+    }
+
+    /** Nearly as many patterns were taken back as were tried when the last of all steps is taken. */
+    private static void mostStepsNearTheFirstSheet() {
+        PatternColumns x = narrowBesideWide(62);
+        C.due("four sheets", 4, x.design(100000));
+        C.due("it is spent", 1, x.designed(0));
+        C.due("all steps", 100000, x.designed(1));
+        designs("fewer steps than there may be", narrowBesideWide(63), 4, 88425);
+    }
+
+    private static PatternColumns narrowBesideWide(int width) {
+        PatternColumns x = new PatternColumns();
+        for (int i = 0; i < 4; i++) {
+            x.order(1, 6);
+        }
+        x.order(width, 4);
+        return x;
     }
 
     /** "when no step is left ahead of one, designing stops: SPENT": what was found ahead of it stays. */
